@@ -1,5 +1,3 @@
-import java.util.function.Supplier;
-
 /** Applications and payments: promises 14 to 22, and the sheets billed, held, paid, toCome: 27, 28, 31, 32. */
 final class ApplicationsTest {
     private static final Checks CHECKS = new Checks("applications");
@@ -7,30 +5,17 @@ final class ApplicationsTest {
     public static void main(String[] args) {
         promise14CloseByTheWhole();
         promise14CloseByTheIncrease();
-        promise14HeldIsRounded();
         promise14RateOfTheClosing();
-        promise14SixtyApplications();
-        promise14Throws();
         promise15NextAmount();
         promises16And17PayAndWaive();
-        promise16Throws();
-        promise17Throws();
         promises18To22();
-        promises18To22Throw();
-        promises27And28Throw();
         promises31And32();
         CHECKS.end();
     }
 
-    private static ProgressBilling withLine(int value) {
-        ProgressBilling x = new ProgressBilling();
-        x.addLine(value);
-        return x;
-    }
-
     /** A line of 1000 and so many applications of 90 each. */
     private static ProgressBilling closed(int applications) {
-        ProgressBilling x = withLine(1000);
+        ProgressBilling x = Contracts.line(1000);
         for (int application = 0; application < applications; application++) {
             x.setWork(0, Math.min(1000, 100 * (application + 1)));
             x.close();
@@ -39,7 +24,7 @@ final class ApplicationsTest {
     }
 
     private static void promise14CloseByTheWhole() {
-        ProgressBilling x = withLine(1000);
+        ProgressBilling x = Contracts.line(1000);
         x.addLine(500);
         x.setWork(0, 400);
         x.store(1, 55);
@@ -64,7 +49,7 @@ final class ApplicationsTest {
     }
 
     private static void promise14CloseByTheIncrease() {
-        ProgressBilling x = withLine(1000);
+        ProgressBilling x = Contracts.line(1000);
         x.hold(true);
         x.setWork(0, 400);
         x.close();
@@ -89,38 +74,8 @@ final class ApplicationsTest {
         CHECKS.same("billedBehind(4)", x.billedBehind(4), 1000);
     }
 
-    /** Each line is rounded by itself, a half upwards. */
-    private static void promise14HeldIsRounded() {
-        for (boolean byIncrease : new boolean[] {false, true}) {
-            ProgressBilling x = new ProgressBilling();
-            x.hold(byIncrease);
-            int[] earned = {4, 5, 14, 15, 9999995, 9999994};
-            int[] due = {0, 1, 1, 2, 1000000, 999999};
-            for (int line = 0; line < earned.length; line++) {
-                x.addLine(10000000);
-                x.store(line, earned[line]);
-            }
-            x.close();
-            for (int line = 0; line < earned.length; line++) {
-                CHECKS.same("held(" + line + ") of " + earned[line], x.held(line), due[line]);
-            }
-            CHECKS.same("heldBehind(0)", x.heldBehind(0), 2000003);
-            CHECKS.same("amount(0)", x.amount(0), 18000024);
-        }
-        ProgressBilling y = withLine(10000000);
-        y.setStep(0, 999);
-        y.store(0, 500);
-        y.close();
-        CHECKS.same("held(0), 499.5", y.held(0), 500);
-        y.setStep(0, 1000);
-        y.store(0, 9999500);
-        y.close();
-        CHECKS.same("held(0), all of it", y.held(0), 10000000);
-        CHECKS.same("amount(1)", y.amount(1), 0);
-    }
-
     private static void promise14RateOfTheClosing() {
-        ProgressBilling x = withLine(1000);
+        ProgressBilling x = Contracts.line(1000);
         x.addLine(1000);
         x.setStep(250, 50);
         x.setStep(500, 0);
@@ -141,32 +96,10 @@ final class ApplicationsTest {
         CHECKS.same("amount(3)", x.amount(3), -50);
     }
 
-    private static void promise14SixtyApplications() {
-        ProgressBilling x = withLine(1000);
-        for (int application = 0; application < 60; application++) {
-            x.setWork(0, 10 * (application + 1));
-            CHECKS.same("close()", x.close(), application);
-        }
-        CHECKS.same("applications()", x.applications(), 60);
-        for (int application = 0; application < 60; application++) {
-            CHECKS.same("amount(" + application + ")", x.amount(application), 9);
-            CHECKS.same("billedBehind(" + application + ")", x.billedBehind(application), 10 * (application + 1));
-            CHECKS.same("heldBehind(" + application + ")", x.heldBehind(application), application + 1);
-        }
-        x.setWork(0, 700);
-        CHECKS.same("nextAmount() behind 60 applications", x.nextAmount(), 90);
-    }
-
-    private static void promise14Throws() {
-        CHECKS.thrown("close() without lines", ProgressBilling::new, Checks.REFUSED, x -> x.close());
-        CHECKS.thrown("close() with 60 applications", () -> closed(60), Checks.REFUSED, x -> x.close());
-        CHECKS.same("close() of a line with the value 0", withLine(0).close(), 0);
-    }
-
     private static void promise15NextAmount() {
         CHECKS.same("without lines", new ProgressBilling().nextAmount(), 0);
-        CHECKS.same("without work", withLine(1000).nextAmount(), 0);
-        ProgressBilling x = withLine(1000);
+        CHECKS.same("without work", Contracts.line(1000).nextAmount(), 0);
+        ProgressBilling x = Contracts.line(1000);
         x.addLine(10000000);
         x.setStep(1, 33);
         int[] shares = {0, 5, 250, 251, 999, 1000};
@@ -214,40 +147,6 @@ final class ApplicationsTest {
         CHECKS.same("paid()", y.paid(), 900);
     }
 
-    /** Three applications: WAIVED, PAID, CLOSED. */
-    private static ProgressBilling paidInPart() {
-        ProgressBilling x = closed(3);
-        x.pay(0);
-        x.waive(0);
-        x.pay(1);
-        return x;
-    }
-
-    private static void promise16Throws() {
-        Supplier<ProgressBilling> made = ApplicationsTest::paidInPart;
-        for (int application : Numbers.and(Checks.FAR_OUT, -1, 3, 59, 60)) {
-            CHECKS.thrown("pay(" + application + ")", made, Checks.NO_SUCH, x -> x.pay(application));
-        }
-        CHECKS.thrown("pay(0), WAIVED", made, Checks.REFUSED, x -> x.pay(0));
-        CHECKS.thrown("pay(1), PAID", made, Checks.REFUSED, x -> x.pay(1));
-        CHECKS.thrown("pay(2) before the waiver of 1", made, Checks.REFUSED, x -> x.pay(2));
-        CHECKS.thrown("pay(1) before the payment of 0", () -> closed(2), Checks.REFUSED, x -> x.pay(1));
-        CHECKS.thrown("pay(60)", () -> closed(60), Checks.NO_SUCH, x -> x.pay(60));
-        CHECKS.thrown("pay(59)", () -> closed(60), Checks.REFUSED, x -> x.pay(59));
-        CHECKS.thrown("pay(0) on a new object", ProgressBilling::new, Checks.NO_SUCH, x -> x.pay(0));
-    }
-
-    private static void promise17Throws() {
-        Supplier<ProgressBilling> made = ApplicationsTest::paidInPart;
-        for (int application : Numbers.and(Checks.FAR_OUT, -1, 3, 59, 60)) {
-            CHECKS.thrown("waive(" + application + ")", made, Checks.NO_SUCH, x -> x.waive(application));
-        }
-        CHECKS.thrown("waive(0), WAIVED", made, Checks.REFUSED, x -> x.waive(0));
-        CHECKS.thrown("waive(2), CLOSED", made, Checks.REFUSED, x -> x.waive(2));
-        CHECKS.thrown("waive(60)", () -> closed(60), Checks.NO_SUCH, x -> x.waive(60));
-        CHECKS.thrown("waive(0) on a new object", ProgressBilling::new, Checks.NO_SUCH, x -> x.waive(0));
-    }
-
     private static void promises18To22() {
         ProgressBilling x = closed(2);
         CHECKS.same("applications()", x.applications(), 2);
@@ -283,31 +182,6 @@ final class ApplicationsTest {
         CHECKS.same("the least amount(1)", great.amount(1), -144000000);
     }
 
-    private static void promises18To22Throw() {
-        Supplier<ProgressBilling> made = ApplicationsTest::paidInPart;
-        for (int application : Numbers.and(Checks.FAR_OUT, -1, 3, 59, 60)) {
-            CHECKS.thrown("state(" + application + ")", made, Checks.NO_SUCH, x -> x.state(application));
-            CHECKS.thrown("amount(" + application + ")", made, Checks.NO_SUCH, x -> x.amount(application));
-            CHECKS.thrown("billedBehind(" + application + ")", made, Checks.NO_SUCH, x -> x.billedBehind(application));
-            CHECKS.thrown("heldBehind(" + application + ")", made, Checks.NO_SUCH, x -> x.heldBehind(application));
-        }
-        Supplier<ProgressBilling> sixty = () -> closed(60);
-        CHECKS.thrown("state(60)", sixty, Checks.NO_SUCH, x -> x.state(60));
-        CHECKS.thrown("amount(60)", sixty, Checks.NO_SUCH, x -> x.amount(60));
-        CHECKS.thrown("billedBehind(60)", sixty, Checks.NO_SUCH, x -> x.billedBehind(60));
-        CHECKS.thrown("heldBehind(60)", sixty, Checks.NO_SUCH, x -> x.heldBehind(60));
-    }
-
-    private static void promises27And28Throw() {
-        Supplier<ProgressBilling> made = ApplicationsTest::paidInPart;
-        CHECKS.same("billed(0)", made.get().billed(0), 300);
-        CHECKS.same("held(0)", made.get().held(0), 30);
-        for (int line : Numbers.and(Checks.FAR_OUT, -1, 1, 15, 16)) {
-            CHECKS.thrown("billed(" + line + ")", made, Checks.NO_SUCH, x -> x.billed(line));
-            CHECKS.thrown("held(" + line + ")", made, Checks.NO_SUCH, x -> x.held(line));
-        }
-    }
-
     private static void promises31And32() {
         ProgressBilling x = closed(3);
         CHECKS.same("paid() of none", x.paid(), 0);
@@ -322,7 +196,7 @@ final class ApplicationsTest {
         CHECKS.same("toCome()", x.toCome(), 820);
         x.changeValue(0, 300);
         CHECKS.same("toCome() of a smaller contract", x.toCome(), 120);
-        ProgressBilling y = withLine(1000);
+        ProgressBilling y = Contracts.line(1000);
         y.setStep(0, 0);
         y.setWork(0, 1000);
         y.close();

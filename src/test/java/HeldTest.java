@@ -1,14 +1,10 @@
-import java.util.function.Supplier;
-
 /** What is held: promises 8 to 13. */
 final class HeldTest {
     private static final Checks CHECKS = new Checks("what is held");
 
     public static void main(String[] args) {
         promise8SetStep();
-        promise8Throws();
         promise9DropStep();
-        promise9Throws();
         promise10Hold();
         promise11Steps();
         promise12Progress();
@@ -17,16 +13,8 @@ final class HeldTest {
         CHECKS.end();
     }
 
-    /** A line of 1000, built up to a progress. */
-    private static ProgressBilling at(int progress) {
-        ProgressBilling x = new ProgressBilling();
-        x.addLine(1000);
-        x.setWork(0, progress);
-        return x;
-    }
-
     private static ProgressBilling withSixSteps() {
-        ProgressBilling x = at(600);
+        ProgressBilling x = Contracts.at(600);
         x.setStep(1000, 0);
         x.setStep(300, 80);
         x.setStep(999, 5);
@@ -36,7 +24,7 @@ final class HeldTest {
     }
 
     private static void promise8SetStep() {
-        ProgressBilling x = at(0);
+        ProgressBilling x = Contracts.at(0);
         CHECKS.same("setStep(0, 1000) on the first step", x.setStep(0, 1000), 100);
         CHECKS.same("rate()", x.rate(), 1000);
         CHECKS.same("setStep(0, 0)", x.setStep(0, 0), 1000);
@@ -50,20 +38,6 @@ final class HeldTest {
         CHECKS.same("changing one of 6 steps", six.setStep(300, 81), 80);
         CHECKS.same("changing it again", six.setStep(300, 80), 81);
         CHECKS.same("steps()", six.steps(), 6);
-    }
-
-    private static void promise8Throws() {
-        Supplier<ProgressBilling> made = () -> at(600);
-        Supplier<ProgressBilling> six = HeldTest::withSixSteps;
-        for (int number : Numbers.and(Checks.FAR_OUT, -1, 1001)) {
-            CHECKS.thrown("setStep(" + number + ", 5)", made, Checks.OUT_OF_RANGE, x -> x.setStep(number, 5));
-            CHECKS.thrown("setStep(300, " + number + ")", made, Checks.OUT_OF_RANGE, x -> x.setStep(300, number));
-            CHECKS.thrown("setStep(0, " + number + ")", made, Checks.OUT_OF_RANGE, x -> x.setStep(0, number));
-            CHECKS.thrown("setStep(" + number + ", 5) with 6 steps", six, Checks.OUT_OF_RANGE, x -> x.setStep(number, 5));
-            CHECKS.thrown("setStep(2, " + number + ") with 6 steps", six, Checks.OUT_OF_RANGE, x -> x.setStep(2, number));
-        }
-        CHECKS.thrown("setStep(2, 5) with 6 steps", six, Checks.REFUSED, x -> x.setStep(2, 5));
-        CHECKS.thrown("setStep(998, 0) with 6 steps", six, Checks.REFUSED, x -> x.setStep(998, 0));
     }
 
     private static void promise9DropStep() {
@@ -82,27 +56,8 @@ final class HeldTest {
         CHECKS.same("the step 0 stays", x.setStep(0, 1), 100);
     }
 
-    private static ProgressBilling withADroppedStep() {
-        ProgressBilling x = withSixSteps();
-        x.dropStep(500);
-        return x;
-    }
-
-    private static void promise9Throws() {
-        Supplier<ProgressBilling> six = HeldTest::withSixSteps;
-        for (int threshold : Numbers.and(Checks.FAR_OUT, -1, 0, 1001)) {
-            CHECKS.thrown("dropStep(" + threshold + ")", six, Checks.OUT_OF_RANGE, x -> x.dropStep(threshold));
-        }
-        for (int threshold : new int[] {2, 299, 301, 998}) {
-            CHECKS.thrown("dropStep(" + threshold + ")", six, Checks.REFUSED, x -> x.dropStep(threshold));
-        }
-        CHECKS.thrown("dropStep(500) again", HeldTest::withADroppedStep, Checks.REFUSED, x -> x.dropStep(500));
-        CHECKS.thrown("dropStep(1) on a new object", ProgressBilling::new, Checks.REFUSED, x -> x.dropStep(1));
-        CHECKS.thrown("dropStep(1000) on a new object", ProgressBilling::new, Checks.REFUSED, x -> x.dropStep(1000));
-    }
-
     private static void promise10Hold() {
-        ProgressBilling x = at(500);
+        ProgressBilling x = Contracts.at(500);
         CHECKS.same("hold(true)", x.hold(true), false);
         CHECKS.same("hold(true) again", x.hold(true), true);
         CHECKS.same("hold(false)", x.hold(false), true);
@@ -163,7 +118,7 @@ final class HeldTest {
         int[] progress = {0, 1, 2, 299, 300, 301, 499, 500, 600, 998, 999, 1000};
         int[] due = {100, 90, 90, 90, 80, 80, 80, 60, 60, 60, 5, 0};
         for (int i = 0; i < progress.length; i++) {
-            ProgressBilling x = at(progress[i]);
+            ProgressBilling x = Contracts.at(progress[i]);
             x.setStep(1000, 0);
             x.setStep(300, 80);
             x.setStep(999, 5);
@@ -182,7 +137,7 @@ final class HeldTest {
     private static void promise13OrderOfStepsIsFree() {
         int[][] orders = {{100, 200, 300}, {100, 300, 200}, {200, 100, 300}, {200, 300, 100}, {300, 100, 200}, {300, 200, 100}};
         for (int[] order : orders) {
-            ProgressBilling x = at(250);
+            ProgressBilling x = Contracts.at(250);
             for (int threshold : order) {
                 x.setStep(threshold, threshold + 1);
             }

@@ -1,5 +1,3 @@
-import java.util.function.Supplier;
-
 /** The order of the lines by their shares: promise 29. */
 final class SharesTest {
     private static final Checks CHECKS = new Checks("shares");
@@ -10,7 +8,6 @@ final class SharesTest {
         fractionsAreNotRounded();
         theValueZeroIsTheShareZero();
         sixteenLines();
-        placesThatAreNone();
         CHECKS.end();
     }
 
@@ -78,13 +75,5 @@ final class SharesTest {
         for (int place = 0; place < 16; place++) {
             CHECKS.same("work at place " + place, x.work(x.lineByShare(place)), 15 - place);
         }
-    }
-
-    private static void placesThatAreNone() {
-        Supplier<ProgressBilling> made = () -> lines(new int[] {100, 200, 50}, new int[] {50, 20, 49});
-        for (int place : Numbers.and(Checks.FAR_OUT, -1, 3, 15, 16)) {
-            CHECKS.thrown("lineByShare(" + place + ")", made, Checks.NO_SUCH, x -> x.lineByShare(place));
-        }
-        CHECKS.thrown("lineByShare(16)", () -> lines(new int[16], new int[16]), Checks.NO_SUCH, x -> x.lineByShare(16));
     }
 }
