@@ -1,4 +1,4 @@
-/** None, one, and as many as there can be: lines, steps, applications; and sums and values of 0. */
+/** None, one, and as many as there can be: lines, steps, applications, calls; and sums and values of 0. */
 final class CountsTest {
     private static final Checks CHECKS = new Checks("counts");
 
@@ -23,6 +23,7 @@ final class CountsTest {
         aLineWithTheValueZero();
         aLineWithTheValueZeroAmongOthers();
         aLineThatIsClosedBeforeAnotherIsAdded();
+        fiveHundredAndTwelveCalls();
         CHECKS.end();
     }
 
@@ -299,5 +300,30 @@ final class CountsTest {
         CHECKS.same("progress(), half of it now", x.progress(), 500);
         CHECKS.same("toCome()", x.toCome(), 2000);
         CHECKS.same("nextAmount() when nothing is new", x.nextAmount(), 0);
+    }
+
+    // ---- calls
+
+    /** One call with the line, 8 with each of 60 applications, 2 with each of 15 lines more, and the last one. */
+    private static void fiveHundredAndTwelveCalls() {
+        ProgressBilling x = Contracts.line(1000000);
+        int paid = 0;
+        for (int application = 0; application < 60; application++) {
+            int more = 100 * (application + 1);
+            CHECKS.same("store(0, " + more + ")", x.store(0, more), 50 * (application + 1) * (application + 2));
+            CHECKS.same("nextAmount()", x.nextAmount(), 90 * (application + 1));
+            CHECKS.same("close()", x.close(), application);
+            CHECKS.same("pay(" + application + ")", x.pay(application), 90 * (application + 1));
+            CHECKS.same("waive(" + application + ")", x.waive(application), application + 1);
+            paid += 90 * (application + 1);
+            CHECKS.same("paid()", x.paid(), paid);
+            CHECKS.same("toCome()", x.toCome(), 1000000 - paid);
+            CHECKS.same("state(" + application + ")", x.state(application), ProgressBilling.WAIVED);
+        }
+        for (int line = 1; line < 16; line++) {
+            CHECKS.same("addLine(" + line + ")", x.addLine(line), line);
+            CHECKS.same("contractSum() with line " + line, x.contractSum(), 1000000 + line * (line + 1) / 2);
+        }
+        CHECKS.same("lines(), the call 512", x.lines(), 16);
     }
 }
