@@ -1,6 +1,7 @@
 import java.io.IOException;
 import java.nio.file.Files;
 import java.nio.file.Path;
+import java.util.TreeSet;
 
 /**
  * The class keeps to the rules of LANGUAGE.md that Language can read off its source, and Language finds
@@ -18,23 +19,27 @@ final class LanguageTest {
         calls();
         exceptions();
         loopsAndTexts();
+        whatNeedsMoreThanOneRule();
         CHECKS.end();
     }
 
     /** Members of a class One that break this rule, and no other. */
     private static void breaks(int rule, String... members) throws IOException {
-        String source = "final class One {\n" + String.join("\n", members) + "\n}\n";
-        boolean found = false;
-        StringBuilder told = new StringBuilder();
+        TreeSet<String> rules = rulesBroken("final class One {\n" + String.join("\n", members) + "\n}\n");
+        CHECKS.same("the rules that are broken by " + String.join(" ", members), rules.toString(), "[rule " + rule + "]");
+    }
+
+    /** A source that breaks this rule; it may break others too. */
+    private static void breaksAmongOthers(int rule, String source) throws IOException {
+        CHECKS.same("rule " + rule + " is broken by " + source, rulesBroken(source).contains("rule " + rule), true);
+    }
+
+    private static TreeSet<String> rulesBroken(String source) throws IOException {
+        TreeSet<String> rules = new TreeSet<>();
         for (String fault : Language.faults("One", source)) {
-            String text = fault.substring(0, fault.indexOf(':'));
-            found = true;
-            if (!text.equals("rule " + rule)) {
-                told.append(fault).append("; ");
-            }
+            rules.add(fault.substring(0, fault.indexOf(':')));
         }
-        CHECKS.same("the rules that are broken by " + source + " but for rule " + rule, told.toString(), "");
-        CHECKS.same("a fault is found in " + source, found, true);
+        return rules;
     }
 
     private static void nothingIsFoundInWhatIsAllowed() throws IOException {
@@ -107,5 +112,16 @@ final class LanguageTest {
         breaks(9, "int ever(int of) { boolean on = true; do { of++; on = of == 3; } while (on); return of; }");
         breaks(10, "String joined(int of) { return \"number \" + of; }");
         breaks(10, "String joined(String of) { of += of; return of; }");
+    }
+
+    private static void whatNeedsMoreThanOneRule() throws IOException {
+        breaksAmongOthers(1, "package one; final class One { }");
+        breaksAmongOthers(2, "final class One { Runnable run = () -> { }; }");
+        breaksAmongOthers(2, "final class One { Runnable run = System::gc; }");
+        breaksAmongOthers(2, "final class One { boolean same(int of) { class Two { } return of == 2; } }");
+        breaksAmongOthers(4, "import java.util.List; final class One { }");
+        breaksAmongOthers(6, "final class One { boolean isText(Object any) { return any instanceof String; } }");
+        breaksAmongOthers(6, "final class One { String text(Object any) { return (String) any; } }");
+        breaksAmongOthers(6, "final class One { int thrown(RuntimeException e) { throw e; } }");
     }
 }
